@@ -372,7 +372,9 @@ public final class PromisesTest {
         town mb05;k;ib7;mc99 = 4
         place(0,0) = 4
         place(0,4) = 5
+        place(0,2) = -1
         place(2,0) = 5
+        place(2,2) = -1
         place(2,4) = 7
         place(3,4) = 99
         """);
@@ -980,6 +982,8 @@ public final class PromisesTest {
         coins(0,9,4) = -1
         rule c>4 = 0
         coins(0,9,5) = 5 | 3
+        town rb9;k = 2
+        coins(0,9,1) = 9 | 1
         """);
     promise("26", TOWN + """
         waits(0,9,0,3) = 1073741823 | 0 3
@@ -1225,6 +1229,8 @@ public final class PromisesTest {
         town k;dac;gd;k = 4
         next(0) = 1 | 1
         town k;ga = 2
+        next(0) = 0 | 1
+        town ga = 1
         next(0) = 0 | 1
         rule m>4 = 0
         town k;dac;dad;k = 4
