@@ -1969,7 +1969,6 @@ public final class DownTheGutter {
             scene.planks = planks;
             current.asked = 0;
             current.stuck = 0;
-            current.steps = 0;
         }
 
         /** MINUTES till the last is HOME, and a kitchen, in one number; FAILED if not all are. */

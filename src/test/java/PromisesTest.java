@@ -634,7 +634,9 @@ public final class PromisesTest {
   private static void days() {
     promise("15", TOWN + """
         day = 0 | 0 0
+        count(11) = 0
         day x = -1
+        count(11) = 0
         day t = -2
         day tm1 = -2
         day ta = -3
@@ -1124,6 +1126,14 @@ public final class PromisesTest {
         ways(0,9,10,2) = -1
         ways(0,9,0,3) = -1
         ways(0,0,0,2) = 0 | -1 -1
+        rule m+1-p = 0
+        ways(0,9,0,1) = -1
+        town dbc;k;k = 3
+        ways(0,9,0,1) = 1 | 1 1
+        ways(0,9,0,2) = 1 | 0 0
+        run(1) = 0 | 0 0
+        ways(0,9,0,1) = 0 | -1 -1
+        ways(0,9,0,2) = 2 | 0 1
         """);
     promise("31", FORKS + """
         duel(0,9,0,2,0) = 0 | -1
@@ -1232,6 +1242,10 @@ public final class PromisesTest {
         next(0) = 0 | 1
         town ga = 1
         next(0) = 0 | 1
+        town k;dac;mc09 = 3
+        next(0) = 1 | 1
+        cork(1,0,0) = 1
+        maps() = 1 | 0 0 2
         rule m>4 = 0
         town k;dac;dad;k = 4
         next(0) = 0 | 4
@@ -1343,6 +1357,10 @@ public final class PromisesTest {
         put(0,9,0,0) = 0
         put(0,9,0,0) = 1
         order(0,1) = -2
+        town mb08;k = 2
+        put(0,9,0,0) = 0
+        put(0,9,0,0) = 1
+        order(0,1) = 18 | 9 9 1
         """);
     // Thing 0 has a STEP more to go: whichever waits one MINUTE, they don't meet in MINUTE 1 at fork c.
     promise("38", """
@@ -1390,6 +1408,10 @@ public final class PromisesTest {
         cork(0,0,3) = 1
         again(2) = 1
         count(9) = 1
+        keep(32) = 0
+        again(32) = 0
+        again(-32) = 0
+        again(2147483647) = 0
         """);
     promise("41", TOWN + """
         put(0,9,0,0) = 0
