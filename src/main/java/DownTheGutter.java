@@ -1669,6 +1669,12 @@ public final class DownTheGutter {
             }
         }
 
+        void holdBack(int bits) {
+            for (int i = 0; i < things && i < MOST_THINGS; i++) {
+                starts[i] = ((bits >> i) & 1) != 0 ? Integer.MAX_VALUE : starts[i];
+            }
+        }
+
         void move(int i, int p) {
             if (i >= 0 && i < MOST_THINGS) {
                 spots[i] = p;
@@ -1820,6 +1826,11 @@ public final class DownTheGutter {
             this.rule = rule;
         }
 
+        /** Whether a THING's way may hang on where the other ones are. */
+        boolean seesOthers() {
+            return rule.asksOthers;
+        }
+
         private int flowIn(int minute) {
             int flow = water.in(minute);
             if (rain == 0) {
@@ -1962,6 +1973,10 @@ public final class DownTheGutter {
             start.copy(present);
             those = wanted;
             lead = leading;
+            if (!current.seesOthers()) {
+                // What the others do changes nothing then, and goes through no forks.
+                start.holdBack(~wanted);
+            }
         }
 
         void begin(int planks) {
