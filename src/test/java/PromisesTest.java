@@ -1,20 +1,9 @@
-import java.lang.reflect.InvocationTargetException;
-import java.lang.reflect.Method;
-import java.util.HashMap;
-import java.util.Map;
-import java.util.NoSuchElementException;
-
 /**
  * The document's promises one by one. The answers were worked out by hand from the document.
- *
- * A line is a call and what is due: "put(0,9,0,0) = 0". Behind a | stands the whole ROW that is due.
- * "town gb;k = 2" tells the text behind the name, then calls it ("town = 0": an empty one). An answer
- * "throws" is a NoSuchElementException; booleans count 1 or 0. A line "new" begins with a new object.
+ * How they are told: see Lines.
  */
 public final class PromisesTest {
-  private static final Map<String, Method> METHODS = new HashMap<>();
-  private static int wrong = 0;
-  private static int lines = 0;
+  private static final Lines LINES = new Lines("PromisesTest");
 
   /** gutter a - fork b - fall c - kitchen d, or rat e - kitchen f. */
   private static final String TOWN = "town gb;dce;fd2;k;rf3;k = 6\n";
@@ -24,9 +13,6 @@ public final class PromisesTest {
   private static final String LONG = "town gb;gc;gd;ge;gf;gg;gh;gi;gj;gk;gl;k = 12\n";
 
   public static void main(String[] args) {
-    for (Method method : DownTheGutter.class.getDeclaredMethods()) {
-      METHODS.put(method.getName(), method);
-    }
     texts();
     rules();
     townCalls();
@@ -40,10 +26,7 @@ public final class PromisesTest {
     corks();
     oddsMarksOrders();
     kept();
-    System.out.println(wrong == 0 ? "PromisesTest: " + lines + " answers are as due" : "PromisesTest: " + wrong + " answers are not as due");
-    if (wrong != 0) {
-      System.exit(1);
-    }
+    LINES.end();
   }
 
   private static void texts() {
@@ -1456,76 +1439,7 @@ public final class PromisesTest {
         """);
   }
 
-  // ---- how lines are gone through
-
   private static void promise(String number, String text) {
-    DownTheGutter x = new DownTheGutter();
-    for (String line : text.split("\n")) {
-      if (line.isBlank()) {
-        continue;
-      }
-      lines++;
-      String[] rowParts = line.split("\\|");
-      int cut = rowParts[0].lastIndexOf(" = ");
-      String call = cut < 0 ? rowParts[0].trim() : rowParts[0].substring(0, cut).trim();
-      String due = rowParts[0].substring(cut + 3).trim();
-      String got = answer(x, call);
-      if (!got.equals(due)) {
-        fault(number, line, "answered " + got);
-      }
-      if (rowParts.length > 1 && !rowOf(x).equals(rowParts[1].trim())) {
-        fault(number, line, "has the row " + rowOf(x));
-      }
-    }
-  }
-
-  private static void fault(String number, String line, String what) {
-    wrong++;
-    System.out.println("promise " + number + ": " + line + ": " + what);
-  }
-
-  private static String answer(DownTheGutter x, String call) {
-    int open = call.indexOf('(');
-    boolean isText = call.matches("(town|water|rule|day)( .*)?");
-    String name = isText ? call.split(" ")[0] : call.substring(0, open);
-    Object[] args = new Object[0];
-    if (isText) {
-      tell(x, call.length() > name.length() ? call.substring(name.length() + 1) : "");
-    } else {
-      String inside = call.substring(open + 1, call.length() - 1);
-      String[] parts = inside.isEmpty() ? new String[0] : inside.split(",");
-      args = new Object[parts.length];
-      for (int i = 0; i < parts.length; i++) {
-        args[i] = Integer.valueOf(parts[i].trim());
-      }
-    }
-    try {
-      Object told = METHODS.get(name).invoke(x, args);
-      return told instanceof Boolean b ? (b ? "1" : "0") : told.toString();
-    } catch (InvocationTargetException e) {
-      return e.getCause().getClass() == NoSuchElementException.class ? "throws" : e.getCause().toString();
-    } catch (IllegalAccessException e) {
-      return e.toString();
-    }
-  }
-
-  private static void tell(DownTheGutter x, String text) {
-    x.end(0);
-    for (int at = 0; at < text.length(); at += 4) {
-      int v = 0;
-      for (int k = 0; k < 4; k++) {
-        v = v << 8 | (at + k < text.length() ? text.charAt(at + k) : 0);
-      }
-      x.sign(v);
-    }
-    x.end(text.length());
-  }
-
-  private static String rowOf(DownTheGutter x) {
-    StringBuilder b = new StringBuilder();
-    for (int i = 0; i < x.count(10); i++) {
-      b.append(i > 0 ? " " : "").append(x.row(i));
-    }
-    return b.toString();
+    LINES.check("promise " + number, text);
   }
 }
