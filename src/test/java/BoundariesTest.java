@@ -112,6 +112,35 @@ public final class BoundariesTest {
         place(12,0) = throws
         same town k;k;k;k;k;k;k;k;k;k;k;k;k = -25
         """);
+    // Twelve forks, and eleven with a kitchen behind them: each leads to itself or, by PLANK 1, on.
+    clause("Terms", "PLACES 0 .. (at most 12; written a .. l)", """
+        town dab;dbc;dcd;dde;def;dfg;dgh;dhi;dij;djk;dkl;dla = 12
+        count(3) = 4095
+        plank(11,1) = 1
+        count(4) = 2048
+        maps() = 4096 | 0 0 0
+        cork(11,0,-1) = 1
+        maps() = 4096 | 0 0 0
+        next(0) = 0 | 4096
+        put(0,99,0,0) = 0
+        same save(1) = -2
+        marks(99,0,4095) = 0 | 0
+        town dab;dbc;dcd;dde;def;dfg;dgh;dhi;dij;djk;dkl;k = 12
+        ways(0,99,0,11) = 1 | 2047 2047
+        ways(10,99,0,11) = 1024 | 1024 2047
+        next(0) = 10 | 1024
+        cork(0,0,11) = 1
+        maps() = 1 | 2047 2047 0
+        put(0,99,0,0) = 0
+        put(9,99,0,0) = 1
+        save(1) = 11 | 2047 11
+        save(2) = 2 | 1536 2
+        steer(0,11) = 11 | 2047 11
+        duel(10,99,0,11,1) = 1 | 10
+        duel(9,99,0,11,3) = 0 | -1
+        plank(9,1) = 1
+        duel(9,99,0,11,3) = 1 | 10
+        """);
     clause("Terms", "All but kitchens lead to a next PLACE (a fork to two).", """
         town gg;dga;fg1;rg1;mg00;ig2;k = 7
         place(0,1) = 6

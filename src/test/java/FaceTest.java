@@ -137,18 +137,6 @@ public final class FaceTest {
     }
   }
 
-  private static void tell(DownTheGutter x, String text) {
-    x.end(0);
-    for (int at = 0; at < text.length(); at += 4) {
-      int v = 0;
-      for (int k = 0; k < 4; k++) {
-        v = v << 8 | (at + k < text.length() ? text.charAt(at + k) : 0);
-      }
-      x.sign(v);
-    }
-    x.end(text.length());
-  }
-
   /** No call throws but for place, of and row, whatever it is given. */
   private static void wildArguments() throws IllegalAccessException {
     int[] numbers = {Integer.MIN_VALUE, Integer.MIN_VALUE + 1, -1000000, -33, -32, -31, -2, -1, 0, 0, 1, 1, 2, 3, 4, 5, 6, 9, 10, 11, 12, 13,
@@ -157,9 +145,9 @@ public final class FaceTest {
     Random random = new Random(4711);
     for (int run = 0; run < 150; run++) {
       DownTheGutter x = new DownTheGutter();
-      tell(x, towns[random.nextInt(towns.length)]);
+      Lines.tell(x, towns[random.nextInt(towns.length)]);
       x.town();
-      tell(x, new String[] {"", "p", "-999*999*999*999/-1", "0/0", "n+p", "m/(p-p)"}[random.nextInt(6)]);
+      Lines.tell(x, new String[] {"", "p", "-999*999*999*999/-1", "0/0", "n+p", "m/(p-p)"}[random.nextInt(6)]);
       x.rule();
       for (int k = 0; k < 300; k++) {
         Method m = DownTheGutter.class.getDeclaredMethods()[random.nextInt(DownTheGutter.class.getDeclaredMethods().length)];
@@ -202,13 +190,13 @@ public final class FaceTest {
   }
 
   private static void everyCall(DownTheGutter x) {
-    tell(x, "dbc;dde;gd;mc09;k;ra1;ia3");
+    Lines.tell(x, "dbc;dde;gd;mc09;k;ra1;ia3");
     x.town();
-    tell(x, "12");
+    Lines.tell(x, "12");
     x.water();
-    tell(x, "p+n*0");
+    Lines.tell(x, "p+n*0");
     x.rule();
-    tell(x, "ta9;n1;pb;c01");
+    Lines.tell(x, "ta9;n1;pb;c01");
     x.day();
     for (int k = 0; k < 20; k++) {
       x.plank(0, k % 2);
