@@ -514,6 +514,12 @@ public final class BoundariesTest {
         of(5,6) = 1
         run(9) = 0 | 0 0
         of(5,0) = 2
+        water 3 = 1
+        town gb;gc;k = 3
+        put(0,0,0,0) = 0
+        run(1) = 0 | 0 1
+        of(0,0) = 1
+        of(0,3) = 3
         """);
     clause("Terms", "NOW is 1 more.", "town = 0\nrun(1) = 0 | 0 0\ncount(2) = 1\nrun(0) = 0 | 0 0\ncount(2) = 1\n");
   }
@@ -1156,7 +1162,9 @@ public final class BoundariesTest {
     clause("15", "p and a letter: PLANK of that fork is turned; n and a number (1 or 2 digits): so many MINUTES; c, a digit (a THING), a digit 1 .. 9: give()", TOWN, """
         day pb = 1 | 0 0
         count(4) = 2
-        day pb;pb = 2 | 0 0
+        day pb = 1 | 0 0
+        count(4) = 0
+        day pb;pb;pb = 3 | 0 0
         count(4) = 2
         day n0 = 1 | 0 0
         count(2) = 0
@@ -1386,6 +1394,9 @@ public final class BoundariesTest {
         same sail(0,9,0,0,3) = 3
         rule m=108 = 0
         same sail(1,9,9,99,5) = 101
+        town k;ga = 2
+        same sail(0,0,0,0,0) = 0
+        same sail(1,1,0,0,0) = 1
         """);
     clause("21", "-2: not there (LOST, elsewhere, not in 300 MINUTES); NONE: others, no kitchen.", TOWN, """
         same sail(0,4,0,0,3) = -2
@@ -1429,7 +1440,12 @@ public final class BoundariesTest {
         quiet basin(0,0,3) = 8 | 40 7
         quiet basin(0,9,3) = 8 | 40 23
         quiet basin(0,0,5) = 32 | 40 7
-        """, refused("basin", "9 0 3", "-1 100", "-1 10", "-1 0 1 2 4 6 12 32"));
+        """, refused("basin", "9 0 3", "-1 100", "-1 10", "-1 0 1 2 4 6 12 32"), """
+        town k;ma00;ma11 = 3
+        quiet basin(9,0,0) = 5 | 5 2
+        run(1) = 0 | 0 0
+        quiet basin(9,0,0) = 3 | 3 4
+        """);
     clause("24", "The least BOAT (0 .. 99) with which it is HOME in a kitchen from a PLACE, with COINS, setting out now: it; the ROW: after how many MINUTES.", TOWN, """
         quiet boat(3,0,3) = 0 | 0
         quiet boat(2,0,3) = 3 | 1
@@ -1502,6 +1518,9 @@ public final class BoundariesTest {
         town dba;k = 2
         rule (b=99)*(c=9) = 0
         quiet round(0) = 1 | 1
+        town fa9;fc9;k = 3
+        quiet round(0) = 1 | 1
+        same sail(1,9,0,0,2) = -2
         """);
     clause("27", "the ROW: the same of the next round, from then on (NONE: not in these 300).", """
         town dba;k = 2
@@ -1585,6 +1604,10 @@ public final class BoundariesTest {
         quiet ways(1,9,0,1) = 2 | 0 4
         town gb;k = 2
         quiet ways(0,9,0,1) = 1 | 0 0
+        town k;ma00;dba = 3
+        quiet ways(0,0,0,0) = 2 | 0 4
+        quiet ways(1,9,0,0) = 0 | -1 -1
+        quiet ways(2,9,0,0) = 2 | 0 4
         """);
     clause("30", "NONE: others, no kitchen.", FORKS, refused("ways", "0 9 0 2", "-1 5 12 32", "-1 100", "-1 10", "-1 0 1 3 5 12 32"));
   }
@@ -1618,6 +1641,17 @@ public final class BoundariesTest {
         plank(0,1) = 1
         quiet duel(0,9,0,1,0) = 1 | -1
         """);
+    clause("31", "(BOAT, COINS, setting out now)", """
+        town k;ma00;ma11;ra5 = 4
+        quiet duel(1,9,0,0,1) = 0 | -1
+        quiet duel(2,9,0,0,1) = 1 | -1
+        quiet duel(2,0,0,0,1) = 0 | -1
+        quiet duel(3,9,4,0,1) = 0 | -1
+        quiet duel(3,9,5,0,1) = 1 | -1
+        quiet duel(0,0,0,0,0) = 1 | -1
+        run(1) = 0 | 0 0
+        quiet duel(2,9,0,0,1) = 0 | -1
+        """);
     // Either of forks a and b may be turned first: both lead to kitchen c then, and the least is told.
     clause("31", "of as good ones NONE, then the least", """
         town dbc;ddc;k;mc09 = 4
@@ -1642,6 +1676,14 @@ public final class BoundariesTest {
         rule m=999 = 0
         cork(0,999,2) = 1
         cork(0,0,1) = 2
+        maps() = 2 | 0 0 0
+        town k;ma00;ra1;dac = 4
+        rule b=99 = 0
+        cork(0,0,0) = 1
+        cork(1,0,-1) = 2
+        cork(1,1,0) = 3
+        cork(2,0,-1) = 4
+        cork(3,0,-1) = 5
         maps() = 2 | 0 0 0
         """);
     clause("32", "Refused: others, no kitchen, 10.", "same cork(0,0,-1) = -1\n", FORKS, refused("cork", "0 0 2", "-1 5 12 32", "-1 1000", "-2 0 1 3 5 12 32"), """
@@ -1696,6 +1738,20 @@ public final class BoundariesTest {
         quiet next(999) = 0 | 2
         quiet next(998) = 5 | 2
         quiet next(997) = 0 | 4
+        rule p = 0
+        town k;mc00;dab = 3
+        quiet next(0) = 2 | 1
+        town k;ra1;dab = 3
+        quiet next(0) = 2 | 1
+        town k;ga;mb09;dac;dab = 5
+        quiet next(0) = 3 | 2
+        cork(3,0,0) = 1
+        quiet next(0) = 0 | 2
+        town k;rb1;dad;mb00 = 4
+        quiet next(0) = 2 | 1
+        rule (m=1)*p = 0
+        quiet next(0) = 0 | 2
+        quiet next(1) = 2 | 1
         """);
     clause("35", "-2: there is no such set; NONE: no PLACES, another m.", "same next(0) = -1\nsame next(-1) = -1\nsame next(1000) = -1\n", FORKS, refused("next", "0", "-1 1000"), """
         cork(4,0,-1) = 1
@@ -1738,6 +1794,9 @@ public final class BoundariesTest {
         quiet odds(2,4,9) = 0 | 9 10
         quiet odds(2,3,9) = 0 | 0 1
         quiet odds(2,6,9) = 0 | 1 1
+        water 3 = 1
+        quiet odds(2,3,10) = 0 | 0 1
+        quiet odds(2,4,10) = 0 | 1 1
         """);
     clause("36", "NONE: others.", "same odds(0,0,0) = -1\n", dry, refused("odds", "0 10 5", "-1 1 6 32", "-1 61", "-1 11"));
   }
@@ -1788,6 +1847,17 @@ public final class BoundariesTest {
         same order(0,1) = -2
         rule n*(m>0) = 0
         quiet order(0,1) = 0 | 0 0 1
+        town dcb;k;mb09 = 3
+        put(0,9,0,0) = 0
+        put(0,9,0,0) = 1
+        rule (m=9)+(i=0) = 0
+        quiet order(0,1) = 9 | 0 9 1
+        rule (m=9)+(i=1) = 0
+        quiet order(0,1) = 9 | 9 0 1
+        rule (m=10)+(i=0) = 0
+        same order(0,1) = -2
+        rule (m=10)+(i=1) = 0
+        same order(0,1) = -2
         """);
     // Both must not leave fork a in MINUTE 0: one waits, it does not matter which.
     clause("38", "of as little the least row, how many such rows there are", """
