@@ -1608,6 +1608,12 @@ public final class BoundariesTest {
         quiet ways(0,0,0,0) = 2 | 0 4
         quiet ways(1,9,0,0) = 0 | -1 -1
         quiet ways(2,9,0,0) = 2 | 0 4
+        rule p+p = 0
+        town dbc;k;k = 3
+        quiet ways(0,9,0,1) = 1 | 0 0
+        quiet ways(0,9,0,2) = 1 | 1 1
+        rule p-p = 0
+        quiet ways(0,9,0,1) = 2 | 0 1
         """);
     clause("30", "NONE: others, no kitchen.", FORKS, refused("ways", "0 9 0 2", "-1 5 12 32", "-1 100", "-1 10", "-1 0 1 3 5 12 32"));
   }
@@ -1797,6 +1803,19 @@ public final class BoundariesTest {
         water 3 = 1
         quiet odds(2,3,10) = 0 | 0 1
         quiet odds(2,4,10) = 0 | 1 1
+        """);
+    clause("36", "each HOUR whose first MINUTE is NOW or later", dry, "run(99) = 0\n".repeat(12), "run(12) = 0\ncount(2) = 1200\n", """
+        quiet odds(0,10,10) = 0 | 0 1
+        quiet odds(0,11,10) = 0 | 1 1
+        quiet odds(0,60,5) = 0 | 57 64
+        run(1) = 0 | 0 0
+        quiet odds(0,19,10) = 0 | 0 1
+        quiet odds(0,20,10) = 0 | 1 1
+        quiet odds(0,60,5) = 0 | 57 64
+        quiet odds(0,59,5) = 0 | 13 16
+        run(8) = 0 | 0 0
+        quiet odds(0,1,5) = 0 | 0 1
+        quiet odds(0,12,5) = 0 | 1 4
         """);
     clause("36", "NONE: others.", "same odds(0,0,0) = -1\n", dry, refused("odds", "0 10 5", "-1 1 6 32", "-1 61", "-1 11"));
   }
