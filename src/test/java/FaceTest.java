@@ -11,6 +11,8 @@ import java.util.NoSuchElementException;
 import java.util.Random;
 import java.util.Set;
 import java.util.TreeSet;
+import java.util.regex.Matcher;
+import java.util.regex.Pattern;
 
 /** The public face, rules of the language that can be seen from outside, wild arguments, and the room that calls take. */
 public final class FaceTest {
@@ -52,7 +54,7 @@ public final class FaceTest {
     return b.append(")").toString();
   }
 
-  private static void face() {
+  private static void face() throws IOException {
     Class<?> c = DownTheGutter.class;
     check(Modifier.isPublic(c.getModifiers()) && Modifier.isFinal(c.getModifiers()), "the class is not public and final");
     check(DownTheGutter.NONE == -1, "NONE is not -1");
@@ -68,9 +70,23 @@ public final class FaceTest {
       check(throwsIt == Set.of("place", "of", "row").contains(m.getName()), m + ": its exceptions");
     }
     check(seen.equals(new TreeSet<>(Arrays.asList(FACE))), "the face is " + seen);
+    Path document = Path.of("../shared/DOC.md");
+    if (Files.exists(document)) {
+      check(seen.equals(toldFace(Files.readString(document))), "the face is not the document's");
+    }
     for (Field f : c.getDeclaredFields()) {
       check(Modifier.isPrivate(f.getModifiers()) || f.getName().equals("NONE"), f + " is seen");
     }
+  }
+
+  /** The methods of the document's listing, as told() tells them. */
+  private static Set<String> toldFace(String document) {
+    Set<String> told = new TreeSet<>();
+    Matcher line = Pattern.compile("\n    public (int|long|boolean) (\\w+)\\(([^)]*)\\)( throws NoSuchElementException)?;").matcher(document);
+    while (line.find()) {
+      told.add(line.group(1) + " " + line.group(2) + "(" + line.group(3).replaceAll(" \\w+(, )?", ",").replaceAll(",$", "") + ")");
+    }
+    return told;
   }
 
   private static void inside() {

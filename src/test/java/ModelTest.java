@@ -48,8 +48,16 @@ public final class ModelTest {
       if (random.nextInt(4) > 0) {
         tellRule();
       }
+      boolean isCrowd = random.nextInt(3) == 0;
+      if (isCrowd) {
+        gather();
+      }
       for (int k = 0; k < many && fine; k++) {
-        anyCall();
+        if (isCrowd && random.nextInt(2) == 0) {
+          crowdCall();
+        } else {
+          anyCall();
+        }
       }
       if (!fine) {
         wrong++;
@@ -107,6 +115,63 @@ public final class ModelTest {
     int corkMinute() {
       int k = r(12);
       return k == 0 ? r(1005) - 2 : k < 6 ? r(20) : r(1000);
+    }
+
+    /** THINGS that are in one another's way: THE RULE looks at n, and they come to few forks one by one. */
+    void gather() {
+      String[] rules = {"n", "n>1", "n=0", "n+p", "n*p", "(n=0)*p", "(n>0)*p+(m=1)", "n>m/3", "(n=1)*(i/2)", "n-1", "p-n", "n*w/2+p", "(b<9)*n", "n=c"};
+      tell(rules[r(rules.length)]);
+      same("rule()", real.rule(), model.rule());
+      List<Integer> forks = new ArrayList<>();
+      for (int i = 0; i < model.places.size(); i++) {
+        if (model.isFork(i)) {
+          forks.add(i);
+        }
+      }
+      int many = 2 + r(5);
+      for (int k = 0; k < many; k++) {
+        int a = !forks.isEmpty() && r(3) > 0 ? forks.get(r(Math.min(2, forks.size()))) : p();
+        int b = 3 + r(30);
+        int c = r(10);
+        int d = r(2) == 0 ? 0 : r(7);
+        same("put(" + a + "," + b + "," + c + "," + d + ")", real.put(a, b, c, d), model.put(a, b, c, d));
+      }
+    }
+
+    void crowdCall() {
+      switch (r(9)) {
+        case 0: {
+          int a = r(1 << model.st.things.size());
+          same("save(" + a + ")", real.save(a), model.save(a));
+          break;
+        }
+        case 1: case 2: {
+          int a = thing(); int e = kitchen();
+          same("steer(" + a + "," + e + ")", real.steer(a, e), model.steer(a, e));
+          break;
+        }
+        case 3: case 4: {
+          int a = thing(); int b = thing();
+          same("order(" + a + "," + b + ")", real.order(a, b), model.order(a, b));
+          break;
+        }
+        case 5: {
+          int a = thing(); int n = r(61); int q = r(11);
+          same("odds(" + a + "," + n + "," + q + ")", real.odds(a, n, q), model.odds(a, n, q));
+          break;
+        }
+        case 6: {
+          int a = thing();
+          same("comes(" + a + ")", real.comes(a), model.comes(a));
+          break;
+        }
+        case 7: {
+          same("run(1)", real.run(1), model.run(1));
+          break;
+        }
+        default:
+          same("undo()", real.undo(), model.undo());
+      }
     }
 
     void anyCall() {

@@ -1269,6 +1269,7 @@ public final class PromisesTest {
         odds(0,11,5) = 0 | 1 1
         odds(0,60,5) = 0 | 1 1
         """);
+    promise("36", "town gb;gc;k = 3\nput(0,9,0,0) = 0\nodds(0,1,7) = 0 | 7 10\nodds(0,1,0) = 0 | 0 1\n");
     promise("36", "water 0 = 1\n" + LONG + """
         put(0,99,0,0) = 0
         odds(0,10,5) = 0 | 0 1

@@ -2,28 +2,31 @@ import java.io.IOException;
 import java.nio.file.Files;
 import java.nio.file.Path;
 import java.util.ArrayList;
+import java.util.HashSet;
 import java.util.List;
+import java.util.Set;
 import java.util.regex.Matcher;
 import java.util.regex.Pattern;
 
 /**
- * The document's sentences that name a boundary case, each with lines of its own that fail if it does not hold.
+ * The document's sentences from its first line on, each with lines of its own that fail if it does not hold.
  * The answers were worked out by hand. How they are told: see Lines.
  *
- * The sentences are compared with the document: each must stand in it as it is quoted here, and each
- * boundary that the document names must stand in a sentence that is quoted.
+ * The sentences are compared with the document: each must stand in it as it is quoted here, and each word of
+ * its terms and promises must stand in a sentence that is quoted.
  */
-public final class BoundariesTest {
-  private static final Lines LINES = new Lines("BoundariesTest");
+public final class SentencesTest {
+  private static final Lines LINES = new Lines("SentencesTest");
   private static final Path DOCUMENT = Path.of("../shared/DOC.md");
-  /** What tells a boundary in the document. */
-  private static final Pattern BOUNDARY = Pattern.compile("Refused|NONE|-2:|-3:|-1 - p:|NoSuchElementException: |-?\\d+ \\.\\. \\d+"
-      + "|an empty one|at most|as good|as few|as soon|as little|of equal ones|the least|the fewest|The fewest|the first such|none such|-100");
+  private static final Pattern WORD = Pattern.compile("[A-Za-z0-9]+");
+  /** What an interface says ahead of its calls, if that binds them. */
+  private static final Pattern HEADING = Pattern.compile("the interface says: ---- ([^().]*\\([^()]*\\))");
 
   private record Clause(String section, String sentence) {
   }
 
   private static final List<Clause> CLAUSES = new ArrayList<>();
+  private static final Set<Clause> FOUND = new HashSet<>();
 
   /** gutter a - fork b - fall c (SOAK 2) - kitchen d, or rat e (TOLL 3) - kitchen f. */
   private static final String TOWN = "town gb;dce;fd2;k;rf3;k = 6\n";
@@ -34,7 +37,11 @@ public final class BoundariesTest {
   /** No WATER ahead of MINUTE 300, then in one HOUR: at NOW 0 that is too late, at NOW 1 just in time. */
   private static final String DRY = "water 0000000000000000000000000000001 = 31\n";
 
+  /** fork a - kitchen b, or mill c that always grinds; THING 0 waits at a, THING 1 is carried from there now. */
+  private static final String LEAVING = "town dbc;k;mc09 = 3\nput(0,9,0,5) = 0\nput(0,9,0,0) = 1\n";
+
   public static void main(String[] args) throws IOException {
+    manyCalls();
     townTexts();
     waters();
     things();
@@ -59,6 +66,7 @@ public final class BoundariesTest {
     likelihoods();
     marksAndOrders();
     kept();
+    headings();
     compareWithDocument();
     LINES.end();
   }
@@ -103,9 +111,37 @@ public final class BoundariesTest {
     return b.toString();
   }
 
+  // ---- what it is
+
+  private static void manyCalls() {
+    // 509 calls, with those by which Lines tells the town and looks at the ROW.
+    clause("What it is", "An object is used for at most 512 calls after it has been made; what later calls answer is free.",
+        TOWN, "put(0,99,9,0) = 0\n", "run(1) = 0\nplank(1,1) = 1\nundo() = 2\nundo() = 1\n".repeat(123), "run(3) = 1 | 1 0\nof(0,0) = 3\n");
+  }
+
   // ---- the terms
 
   private static void townTexts() {
+    clause("Terms", "each of a kind: gutter g, fork d, fall f, rat r, mill m, fish i, kitchen k.", """
+        town ga = 1
+        place(0,0) = 0
+        town daa = 1
+        place(0,0) = 1
+        town fa1 = 1
+        place(0,0) = 2
+        town ra1 = 1
+        place(0,0) = 3
+        town ma00 = 1
+        place(0,0) = 4
+        town ia2 = 1
+        place(0,0) = 5
+        town k = 1
+        place(0,0) = 6
+        same town e = -1
+        same town ha = -1
+        same town G = -1
+        same town 1a = -1
+        """);
     clause("Terms", "PLACES 0 .. (at most 12; written a .. l)", """
         town k;k;k;k;k;k;k;k;k;k;k;gl = 12
         place(11,1) = 11
@@ -488,6 +524,29 @@ public final class BoundariesTest {
         sail(3,9,0,9,1) = -2
         sail(3,9,0,10,1) = 11
         """);
+    clause("Terms", "a fork: by THE RULE; else to the next.", """
+        town dbc;ge;gf;gg;fb1;rb1;mb11;ib3 = 8
+        place(0,1) = 1
+        put(0,9,0,0) = 0
+        put(1,9,0,0) = 1
+        put(4,9,0,0) = 2
+        put(5,9,1,0) = 3
+        put(6,9,0,0) = 4
+        put(7,9,0,0) = 5
+        run(1) = 0 | 0 0
+        of(0,0) = 1
+        of(1,0) = 4
+        of(2,0) = 1
+        of(3,0) = 1
+        of(4,0) = 1
+        of(5,0) = 1
+        undo() = 6
+        rule i=0 = 0
+        run(1) = 0 | 0 0
+        of(0,0) = 2
+        of(1,0) = 4
+        of(2,0) = 1
+        """);
     clause("Terms", "BOAT is 1 less with each STEP, and SOAK less besides for one from a fall; below 0 the THING is LOST at the PLACE to which it came (BOAT 0 then).", """
         town gb;gc;fd9;k;gd = 5
         put(4,1,0,0) = 0
@@ -863,6 +922,16 @@ public final class BoundariesTest {
   // ---- promises 7 to 13
 
   private static void townCalls() {
+    clause("7", "Of a PLACE, what 0: kind (0 g, 1 d, 2 f, 3 r, 4 m, 5 i, 6 k)", """
+        town k;ia2;ma00;ra1;fa1;daa;ga = 7
+        place(0,0) = 6
+        place(1,0) = 5
+        place(2,0) = 4
+        place(3,0) = 3
+        place(4,0) = 2
+        place(5,0) = 1
+        place(6,0) = 0
+        """);
     clause("7", "1: its next PLACE (NONE), 2: the second one of a fork (NONE), 3: PLANK (0 but at forks), 4: SOAK, TOLL, EACH, or ten times from, and to (0 of others),"
         + " 5: THINGS on their way that are there (bits).", """
         town gb;dac;fb9;rb8;mb37;ib6;k = 7
@@ -904,6 +973,32 @@ public final class BoundariesTest {
         place(2,5) = 0
         """);
     clause("7", "NoSuchElementException: none such, another what.", "place(0,0) = throws\n", TOWN, outside("place", "throws", "0 0", "-1 6 12 32", "-1 6 7 32"), "place(5,5) = 0\n");
+    clause("8", "Of a THING, what 0: PLACE, 1: BOAT, 2: COINS, 3: MARKS", TOWN, """
+        put(4,20,7,0) = 0
+        put(2,30,1,0) = 1
+        put(0,40,0,3) = 2
+        of(0,0) = 4
+        of(0,1) = 20
+        of(0,2) = 7
+        of(0,3) = 16
+        of(1,0) = 2
+        of(1,1) = 30
+        of(1,2) = 1
+        of(1,3) = 4
+        run(1) = 2 | 3 0
+        of(0,0) = 5
+        of(0,1) = 19
+        of(0,2) = 4
+        of(0,3) = 48
+        of(1,0) = 3
+        of(1,1) = 27
+        of(1,2) = 1
+        of(1,3) = 12
+        of(2,0) = 0
+        of(2,1) = 40
+        of(2,2) = 0
+        of(2,3) = 1
+        """);
     clause("8", "4: 0 on its way, 1 HOME, 2 LOST, 5: MINUTES till it sets out (0: it has, or does now), 6: the MINUTE in which it was LOST or came HOME (NONE).", """
         town gb;k;mb00 = 3
         put(0,9,0,2) = 0
@@ -930,6 +1025,11 @@ public final class BoundariesTest {
         run(1) = 1 | 1 0
         of(0,5) = 0
         of(0,6) = 2
+        put(1,9,0,2) = 4
+        of(4,5) = 2
+        of(4,6) = 3
+        run(1) = 0 | 0 0
+        of(4,5) = 1
         """);
     clause("8", "NoSuchElementException: none such, another what.", "of(0,0) = throws\n", TOWN, "of(0,0) = throws\nput(0,9,0,0) = 0\nput(0,9,0,0) = 1\n",
         outside("of", "throws", "0 0", "-1 2 6 32", "-1 7 8 32"), "undo() = 1\nof(1,0) = throws\n");
@@ -964,6 +1064,15 @@ public final class BoundariesTest {
         sheet(2,6,8,0) = 24
         put(0,3,0,0) = 3
         of(3,1) = 3
+        town mb00;k = 2
+        put(0,9,0,0) = 0
+        put(1,9,0,0) = 1
+        run(1) = 0 | 0 1
+        sheet(2,2,20,1) = 41
+        of(0,1) = 20
+        of(1,1) = 21
+        of(0,4) = 2
+        of(1,4) = 1
         """);
     clause("11", "(of bytes, shorts the lowest bits, with their sign; put to 0 .. 99)", three, """
         sheet(0,3,127,1) = 99
@@ -1067,6 +1176,8 @@ public final class BoundariesTest {
         put(0,9,0,0) = 5
         same put(0,9,0,0) = -2
         same put(3,9,0,0) = -2
+        same put(6,9,0,0) = -1
+        same put(0,100,0,0) = -1
         run(99) = 4
         same put(0,9,0,0) = -2
         undo() = 6
@@ -1561,6 +1672,12 @@ public final class BoundariesTest {
         quiet save(1) = 1 | 1 2
         quiet save(3) = 1 | 4 6
         """);
+    // The others go their ways meanwhile: THING 1 has left the fork when THING 0 comes to choose.
+    clause("28", "so that THINGS told as bits are all HOME in 300 MINUTES", "rule n = 0\n", LEAVING, """
+        quiet save(1) = 0 | 0 6
+        same save(2) = -2
+        same save(3) = -2
+        """);
     clause("28", "-2: by none; NONE: bits of none such.", "quiet save(0) = 0 | 0 0\n", "same save(1) = -1\n", FORKS, """
         put(3,9,0,0) = 0
         put(0,9,0,0) = 1
@@ -1580,6 +1697,17 @@ public final class BoundariesTest {
         quiet steer(0,3) = 1 | 1 2
         quiet steer(0,4) = 2 | 3 2
         quiet steer(1,3) = 0 | 0 0
+        """);
+    clause("29", "so that a THING is HOME in a kitchen", "rule n = 0\n", LEAVING, """
+        quiet steer(0,1) = 0 | 0 6
+        same steer(1,1) = -2
+        town dbc;k;k = 3
+        put(0,9,0,5) = 0
+        put(0,9,0,0) = 1
+        quiet steer(0,1) = 0 | 0 6
+        same steer(0,2) = -2
+        same steer(1,1) = -2
+        quiet steer(1,2) = 0 | 0 1
         """);
     clause("29", "-2: by none; NONE: others, no kitchen.", FORKS, """
         put(1,9,0,0) = 0
@@ -1817,6 +1945,18 @@ public final class BoundariesTest {
         quiet odds(0,1,5) = 0 | 0 1
         quiet odds(0,12,5) = 0 | 1 4
         """);
+    clause("36", "in n MINUTES (0 .. 60; all others as they are)", "rule n = 0\n", LEAVING, "quiet odds(0,6,5) = 0 | 1 1\nquiet odds(0,5,5) = 0 | 0 1\n", """
+        town gb;gc;k = 3
+        put(0,9,0,0) = 0
+        quiet odds(0,1,3) = 0 | 3 10
+        quiet odds(0,2,3) = 0 | 1 1
+        run(10) = 1 | 1 0
+        put(0,9,0,0) = 1
+        quiet odds(1,1,4) = 0 | 2 5
+        run(99) = 1 | 2 0
+        put(0,9,0,0) = 2
+        quiet odds(2,1,4) = 0 | 0 1
+        """);
     clause("36", "NONE: others.", "same odds(0,0,0) = -1\n", dry, refused("odds", "0 10 5", "-1 1 6 32", "-1 61", "-1 11"));
   }
 
@@ -1889,6 +2029,19 @@ public final class BoundariesTest {
         quiet order(0,1) = 0 | 0 0 1
         rule (m=0)*(i=1)+(m=0)*(i=0)*n = 0
         quiet order(0,1) = 2 | 1 1 1
+        rule (m=0)*(n=0) = 0
+        quiet order(0,1) = 1 | 0 1 2
+        quiet order(1,0) = 1 | 0 1 2
+        """);
+    // With two others at the fork the mill gets it: only behind THING 1, which leaves in MINUTE 3, one may go.
+    clause("38", "(0 .. 9 each; all others as they are)", """
+        rule n>1 = 0
+        town dbc;k;mc09 = 3
+        put(0,9,0,0) = 0
+        put(0,9,0,3) = 1
+        put(0,9,0,0) = 2
+        quiet order(0,2) = 7 | 4 3 1
+        quiet order(2,0) = 7 | 3 4 1
         """);
     clause("38", "-2: by none; NONE: others, one is LOST or HOME.", "same order(0,1) = -1\n", """
         town mb09;k;gb;mb00 = 4
@@ -1947,6 +2100,32 @@ public final class BoundariesTest {
         of(0,6) = -1
         again(1) = 1
         """, outside("again", "0", "1", "-1 0 2 3 31 32 33"));
+    clause("41", "What 0: PLACES, 1: THINGS, 2: NOW, 3: forks (bits), 4: PLANKS that are 1 (bits), 5: THINGS on their way, 6: HOME, 7: LOST (bits),"
+        + " 8: what can be undone, 9: corks, 10: numbers of the ROW, 11: signs of THE TEXT.", FORKS, """
+        plank(1,1) = 1
+        put(0,9,0,0) = 0
+        put(3,9,0,0) = 1
+        put(2,9,0,0) = 2
+        put(0,9,0,8) = 3
+        run(2) = 1 | 1 2
+        cork(0,0,2) = 1
+        cork(0,5,-1) = 2
+        sign(1) = 4
+        count(0) = 5
+        count(1) = 4
+        count(2) = 2
+        count(3) = 3
+        count(4) = 2
+        count(5) = 8
+        count(6) = 5
+        count(7) = 2
+        count(8) = 6
+        count(9) = 2
+        count(10) = 2
+        count(11) = 4
+        where(3,0) = 0 | 0 9 0
+        count(10) = 3
+        """);
     clause("41", "-100 for another what.", TOWN, outside("count", "-100", "0", "-1 12 13 32 -100"), "count(0) = 6\ncount(11) = 0\n");
     clause("42", "Number i of the ROW. NoSuchElementException: none such.", outside("row", "throws", "0", "-1 0 1 3"), TOWN, """
         put(0,9,2,0) = 0
@@ -1957,19 +2136,100 @@ public final class BoundariesTest {
         """, outside("row", "throws", "0", "-1 3 4 32"), "coins(4,9,5) = 3 | 1\nrow(0) = 1\nsame row(1) = throws\nsame row(2) = throws\n");
   }
 
+  // ---- what is said ahead of calls
+
+  private static void headings() {
+    clause("Headings", "what will be (nothing changes)", TOWN, """
+        put(0,9,0,0) = 0
+        put(0,2,0,1) = 1
+        put(4,9,0,0) = 2
+        run(1) = 0 | 0 0
+        quiet where(0,300) = 3 | 1 4 0
+        quiet comes(0) = 2 | 3 15
+        quiet comes(1) = -2 | 3
+        quiet comes(2) = -3 | 4
+        quiet lost(300) = 1 | 3 3
+        quiet homes(300) = 1 | 2 4
+        same lost(2) = -2
+        """);
+    // Of those that wait at fork a none is there for it, its number is 0, and it is put in MINUTE 7: only so it goes to b.
+    String waiting = "put(0,9,0,50) = 0\nput(0,9,0,50) = 1\nput(0,9,0,50) = 2\nput(0,9,0,50) = 3\nput(0,9,0,50) = 4\nput(0,9,0,50) = 5\nrun(7) = 0 | 0 0\n";
+    String alone = "one alone (a THING that is thought of, put now; no other ones are there; its number is 0)";
+    clause("Headings", alone, FORK, waiting, """
+        rule n+i+m-7 = 0
+        same sail(0,9,0,0,1) = 1
+        same sail(0,9,0,0,2) = -2
+        same sail(0,9,0,1,2) = 2
+        quiet soonest(9,0,1) = 1 | 0 0
+        quiet soonest(9,0,2) = 2 | 0 1
+        quiet basin(9,0,1) = 3 | 7 0
+        quiet basin(9,0,2) = 4 | 7 0
+        quiet boat(0,0,1) = 1 | 1
+        same boat(0,0,2) = -2
+        quiet coins(0,9,1) = 0 | 1
+        same coins(0,9,2) = -2
+        quiet waits(0,9,0,1) = 1 | 0 1
+        quiet waits(0,9,0,2) = 1073741822 | 1 1
+        """);
+    clause("Headings", alone, "town dab;k = 2\n", waiting, """
+        rule n+i+m-7 = 0
+        quiet round(0) = 1 | -1
+        rule n+i = 0
+        quiet round(0) = 1 | 1
+        rule n+i+1 = 0
+        same round(0) = -2
+        """);
+    // 99 STEPS bring it to b, the hundredth would be one too many.
+    clause("Headings", "corks (things without COINS, with BOAT 99)", "town dab;k = 2\n", """
+        rule m>97 = 0
+        cork(0,0,1) = 1
+        maps() = 2 | 0 0 0
+        rule m>98 = 0
+        maps() = 0 | -1 1 1
+        forget() = 1
+        cork(0,0,-1) = 1
+        maps() = 2 | 0 0 0
+        town rb1;k = 2
+        cork(0,0,1) = 1
+        maps() = 0 | -1 0 0
+        forget() = 1
+        cork(0,0,-1) = 1
+        maps() = 1 | 0 0 0
+        town rb1;dac;k = 3
+        rule = 0
+        next(0) = 1 | 1
+        rule (b=99)*(c=0)*p = 0
+        next(0) = 1 | 1
+        town dbc;k;k = 3
+        next(0) = 0 | 1
+        cork(0,0,2) = 1
+        maps() = 1 | 1 1 0
+        """);
+  }
+
   // ---- the document
 
   private static void compareWithDocument() throws IOException {
     if (!Files.exists(DOCUMENT)) {
-      System.out.println("BoundariesTest: the document is not there, its sentences are not compared");
+      System.out.println("SentencesTest: the document is not there, its sentences are not compared");
       return;
     }
     String text = Files.readString(DOCUMENT).replaceAll("\\s+", " ");
-    compareSection("Terms", between(text, "## Terms", "Ahead of the calls"));
+    compareSection("What it is", between(text, "An object is used", "## The public face"));
+    compareSection("Terms", between(text, "## Terms 1. ", "Ahead of the calls").substring("## Terms 1. ".length()).replace(" ```text", "").replace(" 2. ROW", " ROW"));
+    Matcher heading = HEADING.matcher(between(text, "Ahead of the calls", "## Promise 1:"));
+    while (heading.find()) {
+      compareSection("Headings", heading.group(1));
+    }
     for (int n = 1; n <= 42; n++) {
       String section = between(text, "## Promise " + n + ":", n < 42 ? "## Promise " + (n + 1) + ":" : "## Not promised");
       int signature = section.indexOf("`: ");
       compareSection(String.valueOf(n), section.substring(Math.max(0, signature)));
+    }
+    for (Clause clause : CLAUSES) {
+      if (!FOUND.contains(clause)) {
+        LINES.fault(clause.section + ": the document does not say \"" + clause.sentence + "\"");
+      }
     }
   }
 
@@ -1991,17 +2251,18 @@ public final class BoundariesTest {
       }
       int at = section.indexOf(clause.sentence);
       if (at < 0) {
-        LINES.fault(name + ": the document does not say \"" + clause.sentence + "\"");
         continue;
       }
+      FOUND.add(clause);
       for (int k = at; k < at + clause.sentence.length(); k++) {
         quoted[k] = true;
       }
     }
-    Matcher boundary = BOUNDARY.matcher(section);
-    while (boundary.find()) {
-      if (!quoted[boundary.start()]) {
-        LINES.fault(name + ": no sentence is quoted for \"" + section.substring(boundary.start(), Math.min(section.length(), boundary.start() + 60)) + "\"");
+    Matcher word = WORD.matcher(section);
+    while (word.find()) {
+      if (!quoted[word.start()]) {
+        LINES.fault(name + ": no sentence is quoted for \"" + section.substring(word.start(), Math.min(section.length(), word.start() + 60)) + "\"");
+        return;
       }
     }
   }
